@@ -713,7 +713,9 @@ public final class DoughBorder {
             int last = text.takeNumber(first, TOLD_NIGHTS - 1);
             int warmth = text.takeNumber(1, 9);
             if (text.fault == 0) {
-                Arrays.fill(strip.warmth, first, last + 1, warmth);
+                for (int night = first; night <= last; night++) {
+                    strip.warmth[night] = warmth;
+                }
             }
         }
 

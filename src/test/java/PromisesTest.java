@@ -153,6 +153,11 @@ public final class PromisesTest {
     strip("strip 2 0 100000", fault(10, 0));
     strip("strip 2 0 mile 0 0 0 0", fault(10, 0));
     strip("strip 2 0\u00e9", fault(9, 0));
+    strip("strip 2 0\0", fault(9, 0));
+    strip("strip \u00ff 0", fault(6, 0));
+    strip("strip 2 0\u00ff", fault(9, 0));
+    strip("stripz 2 0", fault(0, 0));
+    strip("strip 2 0;nile 0 0 0 0", fault(10, 0));
     strip("strip 2 0;strip", fault(10, 4));
     strip("strip 2 0; strip 2 0", fault(11, 4));
     strip("mile 0 20 10 0;strip 2 0", fault(0, 4));
@@ -299,6 +304,8 @@ public final class PromisesTest {
     rule("creep 1 if 1=1 and [1=1 or not [2=2]]", 0);
     rule("creep 1 if 100000=x", fault(11, 1));
     rule("creep lines", fault(6, 0));
+    rule("creep line\0", fault(10, 0));
+    rule("creep fine", fault(6, 0));
     rule("creep mile+line+dough+salt+damp+warm+night+above+below+west+east+crust", 0);
   }
 
@@ -331,7 +338,13 @@ public final class PromisesTest {
     rule(twelve + ";creeps", fault(twelve.length() + 1, 0));
     rule(twelve + ";", fault(twelve.length() + 1, 0));
     DoughBorder x = new DoughBorder();
-    for (int k = 0; k < 6; k++) due("rule", Texts.rule(x, "creep " + k), k);
+    for (int k = 0; k < 30; k++) due("a fault", Texts.rule(x, "creep 1" + "+1".repeat(60)), fault(126, 3));
+    for (int k = 0; k < 6; k++) due("rule", Texts.rule(x, "creep " + k + " if 1=1"), k);
+    Texts.strip(x, "strip 2 0");
+    for (int k = 0; k < 6; k++) {
+      x.force(k);
+      due("creep " + k, x.ahead(0, 1, 0), Math.min(k, 3));
+    }
     Texts.tell(x, "creep");
     due("a seventh", x.rule(), -1);
     due("bytes stay", x.count(12), 5);
@@ -683,6 +696,7 @@ public final class PromisesTest {
     for (int k = 0; k < 3; k++) due("row " + k, two.push(3, k + 1), row[k]);
     DoughBorder west = border("strip 2 0;village 1 19 0;want 0 1");
     due("west", west.push(1, 1), 2);
+    due("west of mile 0", border("strip 2 0;village 0 19 0;want 0 1").push(1, 1), 0);
     DoughBorder none = border("strip 2 0;village 1 19 0");
     due("no wants", none.push(3, 0), 0);
     due("no wants", none.push(3, 3), -1);
@@ -843,6 +857,10 @@ public final class PromisesTest {
     DoughBorder y = border("strip 2 0;mile 0 22 0 0;village 1 20 0", "creep 1 if mile=0 and night<9");
     due("drawn along", y.peace(9, 0), 1);
     due("the least set", y.peace(9, 1), 1);
+    // mile 2 draws mile 1 along, and mile 0 creeps beside a baked mile 1: of 4 and 3 the first has fewer miles
+    DoughBorder z = border("strip 3 0;village 0 20 0;village 1 20 0", "creep 3 if mile=2;creep 1 if mile=0 and crust=1");
+    due("fewest ahead of least", z.peace(5, 0), 1);
+    due("fewest ahead of least", z.peace(5, 1), 4);
   }
 
   private static void part() {
@@ -936,6 +954,15 @@ public final class PromisesTest {
     due("back 2 again", x.back(2), 1);
     due("image 2 anew", x.image(2), 1);
     due("image 0", x.image(0), 1);
+    DoughBorder logs = border("strip 2 0;mile 0 20 30 0;mile 1 20 40 0");
+    logs.log(3, 1, 35);
+    logs.image(0);
+    logs.log(-1, 0, 0);
+    logs.log(5, 0, 25);
+    due("thefts by the log", logs.theft(5, 0), 6);
+    logs.back(0);
+    due("thefts by the log of the image", logs.theft(5, 0), 4);
+    due("their mile", logs.theft(5, 1), 1);
     DoughBorder y = new DoughBorder();
     due("image without a strip", y.image(1), 0);
     Texts.strip(y, "strip 2 0");
