@@ -751,7 +751,7 @@ public final class DoughBorder {
         }
     }
 
-    /** A rule as code for a stack: numbers, then words, then signs that join what lies on top. */
+    /** A rule as code for a stack: a number or a word goes on top, a sign joins what lies there. */
     private static final class Rule {
         static final int MOST_CLAUSES = 12;
         static final int MOST_VALUES = 60;
@@ -902,6 +902,7 @@ public final class DoughBorder {
             }
         }
 
+        /** An or waits until the part behind it has ended, for and binds more tightly. */
         private void readTest(int depth) {
             boolean and = false;
             boolean or = false;
@@ -959,6 +960,7 @@ public final class DoughBorder {
             return sign;
         }
 
+        /** A + or - waits until the term behind it has ended, for * / % bind more tightly. */
         private void readSum() {
             int product = NO_SIGN;
             int sum = NO_SIGN;
