@@ -209,6 +209,10 @@ public final class AskEdgesTest extends Checks {
     pushed("held at -20", "strip 2 0;mile 0 1 10 0;mile 1 1 10 0;village 0 1 0;want 0 1", 1, 1, 0);
     pushed("nothing lies behind -20", "strip 2 0;mile 0 1 10 0;mile 1 1 10 0;village 0 0 0;want 0 1", 3, -2);
     pushed("a baked mile is not pushed", "strip 2 0;baked 0;village 0 21 0;want 0 0", 3, -2);
+    pushed("beside a baked one", "strip 3 0;baked 1;village 2 21 0;want 0 0", 1, 1, 5);
+    pushed("ahead of a baked one", "strip 3 0;baked 1;village 0 19 0;want 0 1", 1, 1, 0);
+    pushed("a baked one of three", "strip 3 0;baked 1;village 1 21 0;want 0 0", 3, -2);
+    for (int n = 1; n <= 3; n++) pushed("none of ten", "strip 10 0;village 9 40 0;want 0 0", n, -2, -2);
     says("III: PUSH: behind the last of these all WANTS are so (a VILLAGE lies on that SIDE)");
     pushed("none wanted", "strip 2 0;village 0 21 0", 3, 0, -1, -1, -1);
     pushed("on the line is not west", "strip 2 0;village 0 20 0;want 0 0", 1, 1, 1);
@@ -390,6 +394,7 @@ public final class AskEdgesTest extends Checks {
     says("III: THEFT: the first (by MILES, then NIGHTS)");
     theft("mile 1", logged(at, new int[] {30, 0, 50}), 3, 30, 1, 0);
     theft("mile 0, late", logged(at, new int[] {20, 0, 50}), 3, 39, 0, 21);
+    theft("one in mile 0, then mile 1", logged(at, new int[] {28, 0, 50}), 3, 31, 0, 29);
     theft("mile 1, late", logged(at, new int[] {30, 0, 50}, new int[] {7, 1, 3}), 3, 22, 1, 8);
   }
 
@@ -413,6 +418,14 @@ public final class AskEdgesTest extends Checks {
     theft("made up by nine nights", logged(full, new int[] {9, 0, 99}), 81, 21, 0, 0);
     theft("not made up by nine nights", logged(full, new int[] {9, 0, 99}), 82, 20, 0, 10);
     theft("all of it", logged(full, new int[] {0, 0, 0}), 99, 1, 0, 0);
+    String two = "strip 2 0;mile 0 20 50 0;mile 1 20 3 0;warm 0 29 1";
+    theft("in mile 1, at night 10", logged(two, new int[] {10, 1, 11}), 2, 11, 1, 0);
+    theft("in mile 1, at night 30", logged(two, new int[] {30, 1, 31}), 2, 30, 1, 0);
+    theft("in mile 1, behind night 9", logged(two, new int[] {10, 1, 11}, new int[] {9, 1, 12}), 2, 1, 1, 10);
+    StringBuilder ten = new StringBuilder("strip 10 0;warm 0 29 2");
+    for (int m = 0; m < 10; m++) ten.append(";mile ").append(m).append(" 20 ").append(3 * m).append(" 0");
+    theft("in the last of ten", logged(ten.toString(), new int[] {30, 9, 82}), 5, 30, 9, 0);
+    theft("in none of ten", logged(ten.toString(), new int[] {30, 9, 83}), 5, 0, -2, -2);
     says("III: THEFT: by how the text told it, else nothing was done");
     DoughBorder done = border("strip 2 0;mile 0 20 50 0;mile 1 20 3 0;warm 0 0 5", "creep 3");
     done.night();
@@ -451,6 +464,9 @@ public final class AskEdgesTest extends Checks {
     weighed("night 29 shows all", x, 5, 29, 0, 30);
     weighed("night 30 shows all", x, 5, 30, 0, 30);
     weighed("one is left", logged(at, new int[] {0, 0, 45}), 5, 3, 0, 1);
+    weighed("0 is not 1", border("strip 2 0;mile 0 20 1 0;baked 1"), 1, 14, 0, 15);
+    weighed("98 is not 99", border("strip 2 0;mile 0 20 99 0;baked 1"), 1, 14, 0, 15);
+    weighed("0 is not 99", border("strip 2 0;mile 0 20 99 0;baked 1"), 99, 14, 0, 15);
     says("III: WEIGH: of several the least");
     weighed("both alike", border("strip 2 0"), 5, 14, 0, 45);
     weighed("the second tells more", border("strip 2 0;mile 0 20 4 0"), 5, 14, 1, 15);
@@ -520,6 +536,9 @@ public final class AskEdgesTest extends Checks {
     crusted("west and back", both, 0, 0, 4, 2, 3);
     says("24: for a VILLAGE (any)");
     crusted("the mile beside it", border("strip 2 0;village 0 21 1", "creep 1 if crust=0"), 1, 0, 3, 0, 3);
+    // baked from night 1 on, lines are 1, 0, 1, 0: east of none but 0
+    crusted("by turns", border("strip 2 0;village 0 21 1",
+        "creep 1 if mile=0 and [crust=0 or night%2=0];creep 0-1 if mile=0"), 1, 0, 4, 1, 2);
     says("24: (if it is not baked now), or never");
     DoughBorder baked = border("strip 2 0;village 0 21 1;village 1 21 1;baked 0", "creep 1");
     crusted("baked by the text", baked, 0, 0, 5, -1, 5);

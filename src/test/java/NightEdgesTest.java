@@ -532,6 +532,22 @@ public final class NightEdgesTest extends Checks {
     alike("undo horses", seen(x), behindNight);
     due("undo night", x.undo(), 0);
     alike("undo night", seen(x), first);
+    says("16: .. of the last of ten MILES and of eight VILLAGES, too");
+    DoughBorder ten = border("strip 10 0;mile 9 20 50 5" + ";village 9 20 0".repeat(8));
+    String before = seen(ten);
+    ten.night();
+    ten.horses(9, 3);
+    String pushed = seen(ten);
+    due("crossed by salt that night, and back by horses", ten.village(7, 4), 2);
+    ten.salt(9);
+    ten.sugar(9);
+    ten.slice(9, 7);
+    ten.bake(9);
+    for (int k = 5; k >= 2; k--) due("undo", ten.undo(), k);
+    alike("undo in mile 9", seen(ten), pushed);
+    due("undo", ten.undo(), 1);
+    due("undo", ten.undo(), 0);
+    alike("undo in mile 9", seen(ten), before);
     says("16: -2, and nothing happens: none can");
     due("none can", x.undo(), -2);
     alike("no undo", seen(x), first);
@@ -563,6 +579,15 @@ public final class NightEdgesTest extends Checks {
       }
       due("no more", x.undo(), -2);
       due("dough", x.mile(0, 1), 99 - acts + most);
+    }
+    for (int acts = 38; acts <= 90; acts++) {
+      DoughBorder x = border("strip 2 0;mile 0 20 99 0");
+      for (int k = 1; k <= acts; k++) x.slice(0, 1);
+      for (int k = 1; k <= 20; k++) {
+        due("undo", x.undo(), 20 - k);
+        due("dough behind " + acts, x.mile(0, 1), 99 - acts + k);
+      }
+      due("no more", x.undo(), -2);
     }
     says("II: .. and acts behind an UNDO take the place of what was UNDONE");
     DoughBorder y = border("strip 2 0;mile 0 20 99 0");

@@ -413,6 +413,13 @@ public final class TextEdgesTest extends Checks {
     strip("strip 2 0;100000", fault(10, 0));
     strip("strip 2 0 100000", fault(10, 0));
     strip("strip 2 0,baked 0", fault(9, 0));
+    says("I: FAULTS 4: .. (at its first byte)");
+    strip("strip 2 0;   strip", fault(13, 4));
+    strip("  baked 0", fault(2, 4));
+    String villages = "strip 2 0" + ";village 0 0 0".repeat(8);
+    strip(villages + ";  village", fault(villages.length() + 3, 4));
+    strip(villages + ";want 0 0".repeat(8) + ";  want", fault(villages.length() + 72 + 3, 4));
+    strip("strip 2 0" + ";baked 0".repeat(39) + ";  baked", fault(321 + 3, 4));
     says("I: Of one place the least, in strips");
     String forty = "strip 2 0" + ";baked 0".repeat(39);
     strip(forty + ";", fault(forty.length() + 1, 0));
@@ -632,6 +639,11 @@ public final class TextEdgesTest extends Checks {
     due("too many", Texts.rule(x, "creep 1" + "+1".repeat(60)), fault(126, 3));
     due("just as many", Texts.rule(x, "creep 1" + "+1".repeat(59)), 0);
     due("just as many", Texts.rule(x, "creep 1" + "+1".repeat(59)), 1);
+    DoughBorder y = border("strip 2 0");
+    for (int k = 0; k < 40; k++) due("too many", Texts.rule(y, "creep 1" + "+1".repeat(60)), fault(126, 3));
+    due("a rule behind many faults", Texts.rule(y, "creep 2 if 1=1 and not 1=2;creep 3"), 0);
+    y.force(0);
+    due("it is heard", y.ahead(0, 1, 0), 2);
   }
 
   private static void ruleFaults() {
