@@ -536,6 +536,7 @@ public final class NightEdgesTest extends Checks {
     DoughBorder ten = border("strip 10 0;mile 9 20 50 5" + ";village 9 20 0".repeat(8));
     String before = seen(ten);
     ten.night();
+    String crept = seen(ten);
     ten.horses(9, 3);
     String pushed = seen(ten);
     due("crossed by salt that night, and back by horses", ten.village(7, 4), 2);
@@ -546,6 +547,7 @@ public final class NightEdgesTest extends Checks {
     for (int k = 5; k >= 2; k--) due("undo", ten.undo(), k);
     alike("undo in mile 9", seen(ten), pushed);
     due("undo", ten.undo(), 1);
+    alike("undo in mile 9", seen(ten), crept);
     due("undo", ten.undo(), 0);
     alike("undo in mile 9", seen(ten), before);
     says("16: -2, and nothing happens: none can");
@@ -553,6 +555,14 @@ public final class NightEdgesTest extends Checks {
     alike("no undo", seen(x), first);
     idle(DoughBorder::new, "undo without a strip", DoughBorder::undo, -2);
     idle(() -> border("strip 2 0;mile 0 30 5 5"), "undo without acts", DoughBorder::undo, -2);
+    says("16: .. and what was baked ahead of it stays baked");
+    DoughBorder baked = border("strip 10 0;baked 3");
+    baked.bake(9);
+    baked.salt(0);
+    due("undo salt", baked.undo(), 1);
+    due("baked", baked.count(7), 520);
+    due("undo bake", baked.undo(), 0);
+    due("baked", baked.count(7), 8);
     says("II: UNDONE are ACTS alone: LOGS, x, the RULE IN FORCE and the TAPE stay");
     DoughBorder y = border("strip 2 0", "creep 1");
     y.night();

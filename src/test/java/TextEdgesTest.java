@@ -100,6 +100,15 @@ public final class TextEdgesTest extends Checks {
     due("end 0", y.end(0), 0);
     due("bytes", y.count(12), 0);
     due("an empty tape", y.strip(), fault(0, 0));
+    says("3: .. alone: a word, a number or a sign ends with it");
+    String[] cut = {"strip 2 0|1", "strip 2 0;baked 0|9"};
+    for (String text : cut) due("strip '" + text + "'", cutAt(text).strip(), 0);
+    due("strip 'strip|s 2 0'", cutAt("strip|s").strip(), fault(5, 0));
+    due("strip 'strip 2 0;| baked'", cutAt("strip 2 0;| baked").strip(), fault(10, 0));
+    due("rule 'creep line|s'", cutAt("creep line|s").rule(), 0);
+    due("rule 'creep 99999|9'", cutAt("creep 99999|9").rule(), 0);
+    due("rule 'creep 1 if 1<|=1'", cutAt("creep 1 if 1<|=1").rule(), fault(13, 0));
+    due("rule 'creep 1|+1'", cutAt("creep 1|+1").rule(), 0);
     says("3: NONE, and nothing happens, if it has not so many, or n is below 0");
     DoughBorder z = new DoughBorder();
     due("end 1 of none", z.end(1), -1);
@@ -112,6 +121,15 @@ public final class TextEdgesTest extends Checks {
     due("strip", z.strip(), 0);
     due("end 9 behind strip", z.end(9), -1);
     due("end 1 behind strip", z.end(1), -1);
+  }
+
+  /** A tape that had a text and is cut where the bar stands. */
+  private static DoughBorder cutAt(String text) {
+    int bar = text.indexOf('|');
+    DoughBorder x = new DoughBorder();
+    Texts.tell(x, text.substring(0, bar) + text.substring(bar + 1));
+    due("end " + bar, x.end(bar), bar);
+    return x;
   }
 
   private static void longestTexts() {
